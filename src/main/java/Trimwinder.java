@@ -210,12 +210,12 @@ public final class Trimwinder {
         if (rollCount + rollsIn(pack) > MAX_ROLLS) {
             throw new IllegalStateException("there would be more than 150 rolls");
         }
-        int shifted = bestShift(from, set, pack);
+        int shifted = bestShift(reel, set, pack);
         from.markCut(set, shifted);
         now.markUsed(pattern);
         setsCut++;
         broke += deckle - columnsIn(pack);
-        return windRolls(reel, set, pack, shifted);
+        return windRolls(reel, set, pack, shifted, true);
     }
 
     public int shift(int reel, int set) throws IndexOutOfBoundsException, NoSuchElementException {
@@ -540,12 +540,12 @@ public final class Trimwinder {
         return cuts;
     }
 
-    private int bestShift(Reel from, int set, int pack) {
+    private int bestShift(int reel, int set, int pack) {
         int free = deckle - columnsIn(pack);
         int best = 0;
         int most = -1;
         for (int shifted = 0; shifted <= free; shifted++) {
-            int good = countGood(from, set, pack, shifted);
+            int good = windRolls(reel, set, pack, shifted, false);
             if (good > most) {
                 most = good;
                 best = shifted;
@@ -554,26 +554,8 @@ public final class Trimwinder {
         return best;
     }
 
-    private int countGood(Reel from, int set, int pack, int shifted) {
-        int good = 0;
-        int column = shifted;
-        for (int i = 0; i < orderCount; i++) {
-            Order one = orderAt(i);
-            if (one == null) {
-                continue;
-            }
-            int count = countIn(pack, i);
-            for (int k = 0; k < count; k++) {
-                if (from.worst(set, column, one.width) <= one.quality) {
-                    good++;
-                }
-                column += one.width;
-            }
-        }
-        return good;
-    }
-
-    private int windRolls(int reel, int set, int pack, int shifted) {
+    /** How many rolls are good at a shift: so a trial counts them just as the cut that is kept does. */
+    private int windRolls(int reel, int set, int pack, int shifted, boolean kept) {
         int good = 0;
         int column = shifted;
         for (int i = 0; i < orderCount; i++) {
@@ -584,9 +566,11 @@ public final class Trimwinder {
             int count = countIn(pack, i);
             for (int k = 0; k < count; k++) {
                 int flaw = worstOf(reel, set, column, one.width);
-                boolean holds = flaw <= one.quality;
-                addRoll(new Roll(reel, set, column, one.width, flaw, holds ? i : STOCK));
-                good += holds ? 1 : 0;
+                boolean isGood = flaw <= one.quality;
+                if (kept) {
+                    addRoll(new Roll(reel, set, column, one.width, flaw, isGood ? i : STOCK));
+                }
+                good += isGood ? 1 : 0;
                 column += one.width;
             }
         }

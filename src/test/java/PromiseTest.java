@@ -1050,6 +1050,9 @@ public final class PromiseTest {
         Trimwinder map = cutTwice();
         spoil(part(map, "wound", 4), "flaw", 1);
         Check.same("26: a flaw that the map does not show", false, map.isSound());
+        Trimwinder first = cutTwice();
+        spoil(part(first, "wound", 0), "flaw", -1);
+        Check.same("26: a flaw of the first roll that the map shows otherwise", false, first.isSound());
         Trimwinder plan = cutTwice();
         spoil(field(plan, "current").get(plan), "boundThen", 1);
         Check.same("26: fewer sets than the bound", false, plan.isSound());
