@@ -1,9 +1,30 @@
+import java.util.HashMap;
+import java.util.Map;
+
 /** What the tests share: comparing answers, and looking at all that a mill shows. */
 final class Check {
     /** A call that may throw. */
     interface Call {
         Object make();
     }
+
+    /** Makes a mill, each time in the same state. */
+    interface Maker {
+        Trimwinder make();
+    }
+
+    /** A call on a mill. */
+    interface Act {
+        Object on(Trimwinder mill);
+    }
+
+    /** A call on a mill with a number. */
+    interface NumberAct {
+        Object on(Trimwinder mill, int number);
+    }
+
+    /** What a mill shows that was never asked, for each maker: made once, as making it takes long. */
+    private static final Map<Maker, String> UNTOUCHED = new HashMap<>();
 
     private static int wrong = 0;
 
@@ -31,6 +52,109 @@ final class Check {
         String before = shown(mill);
         same(what, "throws." + due.getSimpleName(), answer(call));
         same(what + ", the mill after it", before, shown(mill));
+    }
+
+    /** Refused twice, and all that follows is as on a mill that was never asked. */
+    static void changesNothing(String what, Maker maker, Class<?> due, Act act) {
+        String untouched = UNTOUCHED.computeIfAbsent(maker, m -> follow(m.make(), m.make(), m.make()));
+        Trimwinder mill = maker.make();
+        String name = "throws." + due.getSimpleName();
+        same(what, name, answer(() -> act.on(mill)));
+        same(what + ", again", name, answer(() -> act.on(mill)));
+        Trimwinder told = maker.make();
+        answer(() -> act.on(told));
+        Trimwinder set = maker.make();
+        answer(() -> act.on(set));
+        same(what + ", what the mill shows after it", untouched, follow(mill, told, set));
+    }
+
+    /** All that mills in the same state show, what follows then, their maps and their numbers. */
+    private static String follow(Trimwinder mill, Trimwinder told, Trimwinder set) {
+        return shown(mill) + future(mill) + maps(told) + reset(set);
+    }
+
+    /** Just the numbers from the least to the greatest one are taken, each on a new mill; the others change nothing. */
+    static void range(String what, Maker maker, int least, int greatest, Class<?> due, NumberAct act) {
+        for (int i = least - 3; i <= greatest + 3; i++) {
+            int number = i;
+            if (number >= least && number <= greatest) {
+                Trimwinder mill = maker.make();
+                String got = answer(() -> act.on(mill, number));
+                same(what + " " + number + " is taken, not " + got, false, got.startsWith("throws"));
+            } else {
+                changesNothing(what + " " + number, maker, due, mill -> act.on(mill, number));
+            }
+        }
+        for (int far : new int[] {Integer.MIN_VALUE, Integer.MIN_VALUE + 1, Integer.MAX_VALUE}) {
+            changesNothing(what + " " + far, maker, due, mill -> act.on(mill, far));
+        }
+    }
+
+    /** The flaws of all columns: each column is told the least flaw, and answers which counts. */
+    private static String maps(Trimwinder mill) {
+        StringBuilder text = new StringBuilder();
+        for (int i = 0; i < 12 * 3 * 60 && hasReel(mill, i / 180); i++) {
+            int place = i;
+            text.append(answer(() -> mill.flaw(place / 180, place / 60 % 3, place % 60, 1))).append(' ');
+        }
+        return text.toString();
+    }
+
+    /** The deckle, and how many patterns there are of small rolls, which tells the knives and the trims. */
+    private static String reset(Trimwinder mill) {
+        StringBuilder text = new StringBuilder();
+        for (int width = 4; width < 10; width++) {
+            int w = width;
+            text.append(answer(() -> mill.order(3, w, 1, 0, 0))).append(' ');
+            text.append(mill.patterns(3)).append(' ').append(mill.bound(3)).append(' ');
+        }
+        text.append(answer(() -> mill.setMill(60, 8, 0, 20)));
+        return text.append(shown(mill)).toString();
+    }
+
+    /** Cuts, gives, plans, ships and winds all that can be, and tells all answers. */
+    private static String future(Trimwinder mill) {
+        StringBuilder text = new StringBuilder();
+        cutAll(mill, text);
+        for (int i = 0; i < 4; i++) {
+            int kind = i;
+            text.append("\nplan ").append(answer(() -> mill.plan(kind))).append(shown(mill));
+            cutAll(mill, text);
+        }
+        for (int i = 0; i < mill.rolls() * 6; i++) {
+            int place = i;
+            text.append(answer(() -> mill.give(place / 6, place % 6))).append(' ');
+        }
+        for (int i = 0; i < 6; i++) {
+            int order = i;
+            text.append("\nship ").append(answer(() -> mill.ship(order)));
+        }
+        for (int i = 0; i < 13; i++) {
+            int number = i;
+            text.append("\nreel ").append(answer(() -> mill.reel(number % 4)));
+            text.append(" order ").append(answer(() -> mill.order(number % 4, 4 + number, 1, 0, 0)));
+        }
+        return text.append(shown(mill)).toString();
+    }
+
+    private static void cutAll(Trimwinder mill, StringBuilder text) {
+        int patterns = 0;
+        while (patterns < 100 && hasPattern(mill, patterns)) {
+            patterns++;
+        }
+        for (int i = 0; i < 36 * patterns && hasReel(mill, i / patterns / 3); i++) {
+            int place = i / patterns;
+            int pattern = i % patterns;
+            text.append(answer(() -> mill.cut(place / 3, place % 3, pattern))).append(' ');
+        }
+    }
+
+    private static boolean hasPattern(Trimwinder mill, int pattern) {
+        return !answer(() -> mill.patternAt(pattern, 0)).startsWith("throws");
+    }
+
+    private static boolean hasReel(Trimwinder mill, int reel) {
+        return !answer(() -> mill.shift(reel, 0)).equals("throws.IndexOutOfBoundsException");
     }
 
     /** All that can be asked of a mill without changing it. */

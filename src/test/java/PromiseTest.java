@@ -56,73 +56,11 @@ public final class PromiseTest {
         Check.end();
     }
 
-    private static Trimwinder mill(int deckle, int knives, int least, int most) {
-        Trimwinder mill = new Trimwinder();
-        mill.setMill(deckle, knives, least, most);
-        return mill;
-    }
-
-    /** A mill of the deckle 20 with one knife, whose plan cuts a roll of the width 4 from each set. */
-    private static Trimwinder wasteful(int kind, int rolls) {
-        Trimwinder mill = mill(20, 1, 0, 20);
-        mill.order(kind, 4, rolls, 0, 0);
-        mill.plan(kind);
-        return mill;
-    }
-
-    /** The first shared run, up to both sets being cut: roll 0 is stock with the flaw 2, the others are held. */
-    private static Trimwinder cutTwice() {
-        Trimwinder mill = mill(40, 4, 0, 6);
-        mill.order(0, 15, 3, 0, 1);
-        mill.order(0, 10, 2, 1, 3);
-        mill.order(1, 30, 1, 0, 0);
-        mill.plan(0);
-        mill.reel(0);
-        mill.flaw(0, 0, 3, 2);
-        mill.flaw(0, 0, 39, 1);
-        mill.flaw(0, 1, 38, 2);
-        mill.cut(0, 0, 0);
-        mill.cut(0, 1, 1);
-        return mill;
-    }
-
-    private static String row(Trimwinder mill, int pattern, int orders) {
-        StringBuilder text = new StringBuilder();
-        for (int i = 0; i < orders; i++) {
-            text.append(i == 0 ? "" : " ").append(mill.patternAt(pattern, i));
-        }
-        return text.toString();
-    }
-
-    private static String rows(Trimwinder mill, int sets, int orders) {
-        StringBuilder text = new StringBuilder();
-        for (int i = 0; i < sets; i++) {
-            text.append(i == 0 ? "" : ", ").append(row(mill, i, orders));
-        }
-        return text.toString();
-    }
-
-    private static String roll(Trimwinder mill, int roll) {
-        StringBuilder text = new StringBuilder();
-        for (char what : "rscwfo".toCharArray()) {
-            text.append(mill.rollOf(roll, what)).append(' ');
-        }
-        return text.append(mill.stateOf(roll)).toString();
-    }
-
-    private static String weights(Trimwinder mill) {
-        StringBuilder text = new StringBuilder();
-        for (char what : "pburx".toCharArray()) {
-            text.append(text.length() == 0 ? "" : " ").append(mill.weight(what));
-        }
-        return text.toString();
-    }
-
     private static void promise01() {
         Trimwinder mill = new Trimwinder();
         Check.same("1: rolls", 0, mill.rolls());
         Check.same("1: unused", 0, mill.unused());
-        Check.same("1: weights", "0 0 0 0 0", weights(mill));
+        Check.same("1: weights", "0 0 0 0 0", Mills.weights(mill));
         Check.same("1: sound", true, mill.isSound());
         for (int kind = 0; kind < 4; kind++) {
             Check.same("1: bound", 0, mill.bound(kind));
@@ -168,7 +106,7 @@ public final class PromiseTest {
     }
 
     private static void promise02Effect() {
-        Trimwinder mill = mill(40, 1, 0, 20);
+        Trimwinder mill = Mills.mill(40, 1, 0, 20);
         mill.order(0, 20, 2, 0, 0);
         Check.same("2: one knife", 1, mill.patterns(0));
         mill.setMill(40, 2, 0, 20);
@@ -189,7 +127,7 @@ public final class PromiseTest {
     }
 
     private static void promise03() {
-        Trimwinder mill = mill(60, 6, 0, 10);
+        Trimwinder mill = Mills.mill(60, 6, 0, 10);
         int[][] right = {{0, 4, 1, 0, 0}, {3, 60, 12, 3, 3}, {1, 20, 5, 2, 1}, {1, 30, 6, 1, 2}, {0, 60, 1, 3, 0}};
         for (int i = 0; i < right.length; i++) {
             int[] r = right[i];
@@ -217,7 +155,7 @@ public final class PromiseTest {
     }
 
     private static void promise03Effect() {
-        Trimwinder mill = mill(40, 6, 0, 10);
+        Trimwinder mill = Mills.mill(40, 6, 0, 10);
         mill.order(2, 17, 9, 2, 1);
         Check.same("3: kind, width, rolls and tolerance count", 3, mill.bound(2));
         Check.same("3: of this kind alone", 0, mill.bound(1));
@@ -231,56 +169,56 @@ public final class PromiseTest {
     }
 
     private static void promise04() {
-        Trimwinder mill = mill(40, 6, 0, 10);
+        Trimwinder mill = Mills.mill(40, 6, 0, 10);
         for (int i = 0; i < 12; i++) {
             Check.same("4: the number", i, mill.reel(2));
             Check.same("4: of pulp", (i + 1) * 120L, mill.weight('p'));
         }
-        Check.same("4: all in sets", "1440 0 1440 0 0", weights(mill));
+        Check.same("4: all in sets", "1440 0 1440 0 0", Mills.weights(mill));
         mill.order(2, 20, 1, 1, 0);
         mill.plan(2);
         Check.refused("4: a thirteenth", mill, WRONG_STATE, () -> mill.reel(2));
         for (int kind : new int[] {-1, 4, Integer.MIN_VALUE, Integer.MAX_VALUE}) {
             Check.refused("4: a wrong thirteenth", mill, WRONG_NUMBER, () -> mill.reel(kind));
         }
-        Trimwinder other = mill(20, 6, 0, 10);
+        Trimwinder other = Mills.mill(20, 6, 0, 10);
         Check.refused("4: no kind", other, WRONG_NUMBER, () -> other.reel(4));
         Check.refused("4: no kind below", other, WRONG_NUMBER, () -> other.reel(-1));
         other.order(3, 20, 1, 0, 0);
         other.plan(3);
         Check.same("4: the first reel spoils nothing", 0, other.reel(3));
-        Check.same("4: the first weighs 3 deckles", "60 0 60 0 0", weights(other));
+        Check.same("4: the first weighs 3 deckles", "60 0 60 0 0", Mills.weights(other));
         Check.same("4: a reel leaves the plan", 1, other.unused());
         other.reel(1);
-        Check.same("4: what is spoilt is broke, and taken at once", "120 0 120 0 0", weights(other));
+        Check.same("4: what is spoilt is broke, and taken at once", "120 0 120 0 0", Mills.weights(other));
     }
 
     private static void promise04Broke() {
         int[][] steps = {{0, 1, 2, 1}, {1, 0, 1, 2}, {2, 1, 0, 1}, {1, 2, 1, 0}};
         for (int from = 0; from < 4; from++) {
             for (int to = 0; to < 4; to++) {
-                Trimwinder mill = wasteful(from, 12);
+                Trimwinder mill = Mills.wasteful(from, 12);
                 for (int i = 0; i < 4; i++) {
                     mill.reel(from);
                 }
                 for (int i = 0; i < 12; i++) {
                     mill.cut(i / 3, i % 3, i);
                 }
-                Check.same("4: before", "240 192 0 48 0", weights(mill));
+                Check.same("4: before", "240 192 0 48 0", Mills.weights(mill));
                 mill.reel(to);
                 int spoilt = 2 * steps[from][to];
                 Check.same("4: from " + from + " to " + to,
-                        (240 + spoilt) + " " + (132 + spoilt) + " 60 48 0", weights(mill));
+                        (240 + spoilt) + " " + (132 + spoilt) + " 60 48 0", Mills.weights(mill));
             }
         }
-        Trimwinder mill = wasteful(0, 3);
+        Trimwinder mill = Mills.wasteful(0, 3);
         mill.reel(0);
         for (int i = 0; i < 3; i++) {
             mill.cut(0, i, i);
         }
         mill.reel(0);
-        Check.same("4: broke as far as there is some, then pulp", "72 0 60 12 0", weights(mill));
-        Trimwinder back = wasteful(1, 12);
+        Check.same("4: broke as far as there is some, then pulp", "72 0 60 12 0", Mills.weights(mill));
+        Trimwinder back = Mills.wasteful(1, 12);
         for (int i = 0; i < 4; i++) {
             back.reel(1);
         }
@@ -289,11 +227,11 @@ public final class PromiseTest {
         }
         back.reel(3);
         back.reel(3);
-        Check.same("4: the reel before counts, not the first one", "244 76 120 48 0", weights(back));
+        Check.same("4: the reel before counts, not the first one", "244 76 120 48 0", Mills.weights(back));
     }
 
     private static void promise05() {
-        Trimwinder mill = mill(30, 6, 0, 15);
+        Trimwinder mill = Mills.mill(30, 6, 0, 15);
         mill.order(0, 15, 2, 0, 0);
         mill.reel(0);
         mill.reel(0);
@@ -306,7 +244,8 @@ public final class PromiseTest {
         Check.same("5: the last set", 2, mill.flaw(0, 2, 29, 2));
         Check.same("5: another reel", 1, mill.flaw(1, 0, 0, 1));
         mill.plan(0);
-        int[][] nowhere = {{-1, 0, 0}, {2, 0, 0}, {12, 0, 0}, {0, -1, 0}, {0, 3, 0}, {0, 0, -1}, {0, 0, 30}, {0, 2, 59}};
+        int[][] nowhere = {{-1, 0, 0}, {2, 0, 0}, {12, 0, 0}, {0, -1, 0}, {0, 3, 0}, {0, 0, -1}, {0, 0, 30},
+            {0, 2, 59}};
         for (int[] n : nowhere) {
             Check.refused("5: nowhere", mill, NO_PLACE, () -> mill.flaw(n[0], n[1], n[2], 1));
             Check.refused("5: nowhere and no flaw", mill, NO_PLACE, () -> mill.flaw(n[0], n[1], n[2], 4));
@@ -327,12 +266,12 @@ public final class PromiseTest {
     }
 
     private static void promise06Example() {
-        Trimwinder mill = mill(40, 4, 0, 6);
+        Trimwinder mill = Mills.mill(40, 4, 0, 6);
         mill.order(0, 15, 3, 0, 1);
         mill.order(0, 10, 2, 1, 3);
         mill.order(1, 30, 1, 0, 0);
         Check.same("6: sets", 2, mill.plan(0));
-        Check.same("6: rows", "2 1 0, 1 2 0", rows(mill, 2, 3));
+        Check.same("6: rows", "2 1 0, 1 2 0", Mills.rows(mill, 2, 3));
         Check.same("6: trim", 5, mill.trim());
         Check.refused("6: 30 of 40 leaves more than 6", mill, NONE_THERE, () -> mill.plan(1));
         Check.same("6: a kind without orders", 0, mill.plan(2));
@@ -346,66 +285,66 @@ public final class PromiseTest {
     }
 
     private static void promise06Choice() {
-        Trimwinder mill = mill(40, 6, 0, 10);
+        Trimwinder mill = Mills.mill(40, 6, 0, 10);
         mill.order(0, 15, 1, 0, 0);
         mill.order(0, 15, 1, 0, 0);
         mill.order(0, 25, 3, 3, 0);
         Check.same("6: fewest sets before least trim", 1, mill.plan(0));
         Check.same("6: 30 of 40", 10, mill.trim());
-        Check.same("6: without the wide one", "1 1 0", rows(mill, 1, 3));
-        Trimwinder full = mill(40, 2, 0, 20);
+        Check.same("6: without the wide one", "1 1 0", Mills.rows(mill, 1, 3));
+        Trimwinder full = Mills.mill(40, 2, 0, 20);
         full.order(0, 20, 2, 1, 0);
         Check.same("6: 1 to 3 rolls", 1, full.plan(0));
-        Check.same("6: the least trim of one set", "2", row(full, 0, 1));
+        Check.same("6: the least trim of one set", "2", Mills.row(full, 0, 1));
         Check.same("6: no trim", 0, full.trim());
-        Trimwinder single = mill(40, 1, 0, 20);
+        Trimwinder single = Mills.mill(40, 1, 0, 20);
         single.order(0, 20, 2, 1, 0);
         Check.same("6: one knife", 1, single.plan(0));
-        Check.same("6: one roll", "1", row(single, 0, 1));
+        Check.same("6: one roll", "1", Mills.row(single, 0, 1));
         Check.same("6: half the deckle", 20, single.trim());
-        Trimwinder rim = mill(40, 2, 1, 20);
+        Trimwinder rim = Mills.mill(40, 2, 1, 20);
         rim.order(0, 20, 2, 0, 0);
         Check.same("6: the least trim forbids two of a set", 2, rim.plan(0));
         Check.same("6: two half sets", 40, rim.trim());
-        Trimwinder wide = mill(20, 8, 0, 20);
+        Trimwinder wide = Mills.mill(20, 8, 0, 20);
         wide.order(0, 10, 1, 1, 0);
         Check.same("6: none need be made, so none is", 0, wide.plan(0));
     }
 
     private static void promise06Rows() {
-        Trimwinder mill = mill(40, 6, 0, 10);
+        Trimwinder mill = Mills.mill(40, 6, 0, 10);
         mill.order(0, 20, 2, 0, 0);
         mill.order(0, 20, 2, 0, 0);
         Check.same("6: two sets", 2, mill.plan(0));
-        Check.same("6: the greater number of the lowest order first", "2 0, 0 2", rows(mill, 2, 2));
-        Trimwinder next = mill(40, 6, 0, 0);
+        Check.same("6: the greater number of the lowest order first", "2 0, 0 2", Mills.rows(mill, 2, 2));
+        Trimwinder next = Mills.mill(40, 6, 0, 0);
         next.order(0, 20, 2, 0, 0);
         next.order(1, 10, 2, 0, 0);
         next.order(0, 10, 2, 0, 0);
         next.order(0, 10, 2, 0, 0);
         Check.same("6: two sets of three orders", 2, next.plan(0));
-        Check.same("6: other kinds take no part", "2 0 0 0, 0 0 2 2", rows(next, 2, 4));
-        Trimwinder share = mill(40, 3, 0, 0);
+        Check.same("6: other kinds take no part", "2 0 0 0, 0 0 2 2", Mills.rows(next, 2, 4));
+        Trimwinder share = Mills.mill(40, 3, 0, 0);
         share.order(0, 20, 2, 0, 0);
         share.order(0, 10, 2, 0, 0);
         share.order(0, 10, 2, 0, 0);
         Check.same("6: three knives", 2, share.plan(0));
-        Check.same("6: then the next order", "1 2 0, 1 0 2", rows(share, 2, 3));
-        Trimwinder swap = mill(30, 2, 0, 0);
+        Check.same("6: then the next order", "1 2 0, 1 0 2", Mills.rows(share, 2, 3));
+        Trimwinder swap = Mills.mill(30, 2, 0, 0);
         swap.order(0, 10, 3, 1, 0);
         swap.order(0, 20, 3, 1, 0);
         Check.same("6: as few as the tolerance lets", 2, swap.plan(0));
-        Check.same("6: both alike", "1 1, 1 1", rows(swap, 2, 2));
-        Trimwinder tie = mill(40, 2, 0, 0);
+        Check.same("6: both alike", "1 1, 1 1", Mills.rows(swap, 2, 2));
+        Trimwinder tie = Mills.mill(40, 2, 0, 0);
         tie.order(0, 20, 1, 1, 0);
         tie.order(0, 20, 1, 1, 0);
         tie.order(0, 20, 1, 0, 0);
         Check.same("6: one of the two beside the third", 1, tie.plan(0));
-        Check.same("6: the lower order's roll", "1 0 1", row(tie, 0, 3));
+        Check.same("6: the lower order's roll", "1 0 1", Mills.row(tie, 0, 3));
     }
 
     private static void promise06Limits() {
-        Trimwinder mill = mill(40, 4, 0, 10);
+        Trimwinder mill = Mills.mill(40, 4, 0, 10);
         mill.order(0, 10, 8, 1, 0);
         mill.order(0, 10, 9, 0, 0);
         mill.order(0, 10, 6, 3, 0);
@@ -416,46 +355,46 @@ public final class PromiseTest {
         Check.refused("6: twice that", mill, NOT_NOW, () -> mill.plan(0));
         Check.same("6: the other kind is small", 3, mill.plan(1));
         Check.refused("6: too many, behind a plan", mill, NOT_NOW, () -> mill.plan(0));
-        Trimwinder over = mill(40, 1, 9, 9);
+        Trimwinder over = Mills.mill(40, 1, 9, 9);
         over.order(0, 10, 4, 0, 0);
         over.order(0, 10, 6, 0, 0);
         over.order(0, 10, 10, 0, 0);
         over.order(0, 10, 12, 0, 0);
         over.plan(3);
         Check.refused("6: 5 by 7 by 11 by 13 is 5005, and no pattern", over, NOT_NOW, () -> over.plan(0));
-        Trimwinder long45 = mill(20, 1, 0, 20);
+        Trimwinder long45 = Mills.mill(20, 1, 0, 20);
         long45.order(0, 20, 12, 0, 0);
         long45.order(0, 20, 12, 0, 0);
         long45.order(0, 20, 12, 0, 0);
         long45.order(0, 20, 1, 0, 0);
         Check.same("6: a set a roll", 37, long45.plan(0));
-        Check.same("6: the last one", "0 0 0 1", row(long45, 36, 4));
-        Check.same("6: the one before", "0 0 1 0", row(long45, 35, 4));
-        Trimwinder none = mill(40, 6, 0, 2);
+        Check.same("6: the last one", "0 0 0 1", Mills.row(long45, 36, 4));
+        Check.same("6: the one before", "0 0 1 0", Mills.row(long45, 35, 4));
+        Trimwinder none = Mills.mill(40, 6, 0, 2);
         none.order(0, 39, 1, 0, 0);
         none.order(1, 20, 3, 0, 0);
         none.plan(0);
         Check.refused("6: three halves", none, NONE_THERE, () -> none.plan(1));
         none.order(1, 18, 1, 0, 0);
         Check.same("6: a half and 18", 2, none.plan(1));
-        Check.same("6: first two halves", "0 2 0, 0 1 1", rows(none, 2, 3));
+        Check.same("6: first two halves", "0 2 0, 0 1 1", Mills.rows(none, 2, 3));
     }
 
     private static void promise06Held() {
-        Trimwinder mill = cutTwice();
+        Trimwinder mill = Mills.cutTwice();
         Check.refused("6: one of 15 more cannot be cut alone", mill, NONE_THERE, () -> mill.plan(0));
         mill.give(0, 1);
         Check.same("6: 4 held for 1 to 3", 4, mill.held(1));
         Check.refused("6: none of them is made then", mill, NONE_THERE, () -> mill.plan(0));
         mill.order(0, 25, 1, 0, 3);
         Check.same("6: besides 25", 1, mill.plan(0));
-        Check.same("6: what is missing", "1 0 0 1", row(mill, 0, 4));
+        Check.same("6: what is missing", "1 0 0 1", Mills.row(mill, 0, 4));
         mill.cut(0, 2, 0);
         Check.same("6: all are held", 0, mill.plan(0));
         mill.ship(0);
         mill.ship(3);
         Check.same("6: shipped orders take no part", 0, mill.plan(0));
-        Trimwinder many = mill(60, 8, 0, 20);
+        Trimwinder many = Mills.mill(60, 8, 0, 20);
         many.order(0, 7, 9, 0, 0);
         many.order(0, 7, 9, 0, 0);
         many.order(0, 7, 9, 0, 0);
@@ -471,15 +410,15 @@ public final class PromiseTest {
     }
 
     private static void promise06Lost() {
-        Trimwinder given = cutTwice();
+        Trimwinder given = Mills.cutTwice();
         given.plan(2);
         given.give(0, 1);
         Check.refused("6: a roll given takes the plan", given, NONE_THERE, () -> given.trim());
-        Trimwinder sent = cutTwice();
+        Trimwinder sent = Mills.cutTwice();
         sent.plan(2);
         sent.ship(1);
         Check.refused("6: an order shipped takes the plan", sent, NONE_THERE, () -> sent.moves());
-        Trimwinder kept = cutTwice();
+        Trimwinder kept = Mills.cutTwice();
         Check.same("6: a cut leaves the plan", 5, kept.trim());
         kept.reel(3);
         kept.flaw(1, 0, 0, 1);
@@ -487,7 +426,7 @@ public final class PromiseTest {
     }
 
     private static void promise07() {
-        Trimwinder mill = wasteful(0, 5);
+        Trimwinder mill = Mills.wasteful(0, 5);
         Check.same("7: all", 5, mill.unused());
         mill.reel(0);
         Check.same("7: still all", 5, mill.unused());
@@ -502,8 +441,8 @@ public final class PromiseTest {
     }
 
     private static void promise08() {
-        Trimwinder mill = cutTwice();
-        Check.same("8: used patterns too", "2 1 0, 1 2 0", rows(mill, 2, 3));
+        Trimwinder mill = Mills.cutTwice();
+        Check.same("8: used patterns too", "2 1 0, 1 2 0", Mills.rows(mill, 2, 3));
         Check.refused("8: no third", mill, NO_PLACE, () -> mill.patternAt(2, 0));
         Check.refused("8: none below", mill, NO_PLACE, () -> mill.patternAt(-1, 0));
         Check.refused("8: no fourth order", mill, NO_PLACE, () -> mill.patternAt(0, 3));
@@ -517,13 +456,13 @@ public final class PromiseTest {
         Check.refused("8: no plan", mill, NO_PLACE, () -> mill.patternAt(0, 0));
         mill.order(0, 25, 1, 0, 3);
         mill.plan(0);
-        Check.same("8: 0 for a shipped one", "1 0 0 1", row(mill, 0, 4));
+        Check.same("8: 0 for a shipped one", "1 0 0 1", Mills.row(mill, 0, 4));
         mill.plan(3);
         Check.refused("8: no set", mill, NO_PLACE, () -> mill.patternAt(0, 0));
     }
 
     private static void promise09() {
-        Trimwinder mill = wasteful(0, 5);
+        Trimwinder mill = Mills.wasteful(0, 5);
         Check.same("9: all trims", 80, mill.trim());
         mill.reel(0);
         mill.cut(0, 0, 0);
@@ -537,7 +476,7 @@ public final class PromiseTest {
     }
 
     private static void promise10() {
-        Trimwinder mill = mill(50, 5, 1, 8);
+        Trimwinder mill = Mills.mill(50, 5, 1, 8);
         mill.order(1, 49, 1, 0, 0);
         Check.same("10: just one", 1, mill.bound(1));
         mill.order(1, 4, 1, 0, 0);
@@ -555,11 +494,11 @@ public final class PromiseTest {
         for (int kind : new int[] {-1, 4, Integer.MIN_VALUE, Integer.MAX_VALUE}) {
             Check.refused("10: no kind", mill, WRONG_NUMBER, () -> mill.bound(kind));
         }
-        Trimwinder cut = cutTwice();
+        Trimwinder cut = Mills.cutTwice();
         Check.same("10: one of 15 is missing", 1, cut.bound(0));
         cut.give(0, 1);
         Check.same("10: one too many does not help", 1, cut.bound(0));
-        Trimwinder lot = wasteful(0, 12);
+        Trimwinder lot = Mills.wasteful(0, 12);
         Check.same("10: 48 by 20", 3, lot.bound(0));
         lot.reel(0);
         lot.cut(0, 0, 0);
@@ -568,7 +507,7 @@ public final class PromiseTest {
     }
 
     private static void promise11() {
-        Trimwinder mill = mill(40, 4, 0, 6);
+        Trimwinder mill = Mills.mill(40, 4, 0, 6);
         mill.order(0, 15, 3, 0, 1);
         mill.order(0, 10, 2, 1, 3);
         mill.plan(0);
@@ -578,32 +517,32 @@ public final class PromiseTest {
         Check.same("11: one alone", 0, mill.moves());
         mill.cut(0, 1, 0);
         Check.same("11: none", 0, mill.moves());
-        Trimwinder sort = mill(20, 1, 0, 20);
+        Trimwinder sort = Mills.mill(20, 1, 0, 20);
         sort.order(0, 20, 1, 0, 0);
         sort.order(0, 10, 1, 0, 0);
         sort.order(0, 20, 1, 0, 0);
         sort.order(0, 10, 1, 0, 0);
         sort.plan(0);
         Check.same("11: the plan's own order would move 6", 2, sort.moves());
-        Trimwinder path = mill(40, 3, 0, 10);
+        Trimwinder path = Mills.mill(40, 3, 0, 10);
         path.order(0, 10, 3, 0, 0);
         path.order(0, 20, 3, 0, 0);
         path.order(0, 30, 2, 0, 0);
         Check.same("11: four sets", 4, path.plan(0));
-        Check.same("11: rows", "2 1 0, 1 0 1, 0 2 0, 0 0 1", rows(path, 4, 3));
+        Check.same("11: rows", "2 1 0, 1 0 1, 0 2 0, 0 0 1", Mills.rows(path, 4, 3));
         // The cuts are 10 20 40, 10 40, 20 40 and 30: from 10 40 over the first to 20 40, then to 30.
         Check.same("11: the least way", 5, path.moves());
     }
 
     private static void promise11Limits() {
-        Trimwinder mill = wasteful(0, 11);
+        Trimwinder mill = Mills.wasteful(0, 11);
         Check.refused("11: 11 are not used", mill, NOT_NOW, () -> mill.moves());
         mill.reel(0);
         mill.cut(0, 0, 3);
         Check.same("11: 10 are not used", 0, mill.moves());
         mill.order(0, 4, 1, 0, 0);
         Check.refused("11: no plan", mill, NONE_THERE, () -> mill.moves());
-        Trimwinder ten = mill(20, 1, 0, 20);
+        Trimwinder ten = Mills.mill(20, 1, 0, 20);
         for (int i = 0; i < 5; i++) {
             ten.order(0, 20 - i, 2, 0, 0);
         }
@@ -612,7 +551,7 @@ public final class PromiseTest {
     }
 
     private static void promise12() {
-        Trimwinder mill = mill(50, 5, 1, 8);
+        Trimwinder mill = Mills.mill(50, 5, 1, 8);
         mill.order(1, 17, 4, 1, 0);
         mill.order(1, 11, 3, 0, 2);
         mill.order(1, 9, 2, 2, 3);
@@ -622,18 +561,18 @@ public final class PromiseTest {
         mill.flaw(0, 1, 20, 1);
         mill.flaw(0, 2, 49, 2);
         Check.same("12: all good", 3, mill.cut(0, 2, 0));
-        Check.same("12: rolls lie by rising orders", "0 2 0 17 0 0 h", roll(mill, 0));
-        Check.same("12: one behind the other", "0 2 17 17 0 0 h", roll(mill, 1));
-        Check.same("12: the second order", "0 2 34 11 0 1 h", roll(mill, 2));
-        Check.same("12: the trim is broke", "150 5 100 45 0", weights(mill));
+        Check.same("12: rolls lie by rising orders", "0 2 0 17 0 0 h", Mills.roll(mill, 0));
+        Check.same("12: one behind the other", "0 2 17 17 0 0 h", Mills.roll(mill, 1));
+        Check.same("12: the second order", "0 2 34 11 0 1 h", Mills.roll(mill, 2));
+        Check.same("12: the trim is broke", "150 5 100 45 0", Mills.weights(mill));
         Check.same("12: shifted past the flaw", 4, mill.cut(0, 0, 1));
         Check.same("12: by one", 1, mill.shift(0, 0));
-        Check.same("12: shifted rolls", "0 0 1 17 0 0 h", roll(mill, 3));
-        Check.same("12: the last roll", "0 0 40 9 0 2 h", roll(mill, 6));
-        Check.same("12: trim on both sides", "150 7 50 93 0", weights(mill));
-        Trimwinder bad = cutTwice();
-        Check.same("12: stock", "0 0 0 15 2 -1 s", roll(bad, 0));
-        Check.same("12: a flaw up to the quality is good", "0 0 30 10 1 1 h", roll(bad, 2));
+        Check.same("12: shifted rolls", "0 0 1 17 0 0 h", Mills.roll(mill, 3));
+        Check.same("12: the last roll", "0 0 40 9 0 2 h", Mills.roll(mill, 6));
+        Check.same("12: trim on both sides", "150 7 50 93 0", Mills.weights(mill));
+        Trimwinder bad = Mills.cutTwice();
+        Check.same("12: stock", "0 0 0 15 2 -1 s", Mills.roll(bad, 0));
+        Check.same("12: a flaw up to the quality is good", "0 0 30 10 1 1 h", Mills.roll(bad, 2));
     }
 
     private static void promise12Shift() {
@@ -641,7 +580,7 @@ public final class PromiseTest {
         int[] shifts = {0, 1, 10, 0, 0, 1, 5, 2, 1};
         int[] goods = {2, 2, 2, 1, 1, 2, 2, 1, 1};
         for (int i = 0; i < flaws.length; i++) {
-            Trimwinder mill = mill(40, 2, 0, 10);
+            Trimwinder mill = Mills.mill(40, 2, 0, 10);
             mill.order(0, 15, 2, 0, 0);
             mill.plan(0);
             mill.reel(0);
@@ -652,7 +591,7 @@ public final class PromiseTest {
             Check.same("12: shift past " + i, shifts[i], mill.shift(0, 1));
             Check.same("12: held past " + i, goods[i], mill.held(0));
         }
-        Trimwinder mill = mill(40, 2, 0, 10);
+        Trimwinder mill = Mills.mill(40, 2, 0, 10);
         mill.order(0, 15, 1, 0, 2);
         mill.order(0, 15, 1, 0, 0);
         mill.plan(0);
@@ -665,7 +604,7 @@ public final class PromiseTest {
     }
 
     private static void promise12Wrong() {
-        Trimwinder mill = cutTwice();
+        Trimwinder mill = Mills.cutTwice();
         mill.reel(1);
         int[][] nowhere = {{-1, 2, 0}, {2, 2, 0}, {12, 2, 0}, {0, -1, 0}, {0, 3, 0}, {0, 2, -1}, {0, 2, 2}, {0, 2, 64}};
         for (int[] n : nowhere) {
@@ -689,7 +628,7 @@ public final class PromiseTest {
     }
 
     private static void promise12Rolls() {
-        Trimwinder mill = mill(60, 8, 0, 20);
+        Trimwinder mill = Mills.mill(60, 8, 0, 20);
         mill.order(0, 7, 8, 0, 0);
         mill.order(1, 7, 6, 0, 0);
         mill.order(1, 60, 1, 0, 0);
@@ -714,12 +653,12 @@ public final class PromiseTest {
         Check.same("12: all rolls", 150, mill.rolls());
         Check.refused("12: 151 rolls", mill, WRONG_STATE, () -> mill.cut(7, 1, 1));
         Check.refused("12: 151 rolls, and used", mill, NOT_NOW, () -> mill.cut(7, 1, 0));
-        Check.same("12: the last roll", "7 0 35 7 0 1 h", roll(mill, 149));
+        Check.same("12: the last roll", "7 0 35 7 0 1 h", Mills.roll(mill, 149));
         Check.same("12: sound when full", true, mill.isSound());
     }
 
     private static void promise13() {
-        Trimwinder mill = cutTwice();
+        Trimwinder mill = Mills.cutTwice();
         mill.reel(0);
         Check.same("13: not shifted", 0, mill.shift(0, 0));
         Check.refused("13: not cut", mill, NONE_THERE, () -> mill.shift(0, 2));
@@ -735,7 +674,7 @@ public final class PromiseTest {
     }
 
     private static void promise14() {
-        Trimwinder mill = wasteful(2, 3);
+        Trimwinder mill = Mills.wasteful(2, 3);
         Check.same("14: none", 0, mill.rolls());
         mill.reel(2);
         mill.cut(0, 1, 0);
@@ -744,18 +683,18 @@ public final class PromiseTest {
         mill.flaw(0, 0, 4, 1);
         mill.cut(0, 0, 1);
         Check.same("14: two", 2, mill.rolls());
-        Check.same("14: stock, held and shipped ones", 6, cutTwice().rolls());
-        Trimwinder sent = cutTwice();
+        Check.same("14: stock, held and shipped ones", 6, Mills.cutTwice().rolls());
+        Trimwinder sent = Mills.cutTwice();
         sent.ship(1);
         Check.same("14: shipped ones stay", 6, sent.rolls());
     }
 
     private static void promise15() {
-        Trimwinder mill = cutTwice();
-        Check.same("15: by sets as they are cut, then by columns", "0 1 25 10 0 1 h", roll(mill, 5));
+        Trimwinder mill = Mills.cutTwice();
+        Check.same("15: by sets as they are cut, then by columns", "0 1 25 10 0 1 h", Mills.roll(mill, 5));
         Check.same("15: stock", -1, mill.rollOf(0, 'o'));
         mill.give(0, 1);
-        Check.same("15: given", "0 0 0 10 2 1 h", roll(mill, 0));
+        Check.same("15: given", "0 0 0 10 2 1 h", Mills.roll(mill, 0));
         for (char what : "RSCWFOahpbx \u0000\uffff".toCharArray()) {
             Check.refused("15: no such thing", mill, WRONG_NUMBER, () -> mill.rollOf(0, what));
             Check.refused("15: nor such a roll", mill, NO_PLACE, () -> mill.rollOf(6, what));
@@ -763,13 +702,13 @@ public final class PromiseTest {
         for (int no : new int[] {-1, 6, 150, Integer.MIN_VALUE, Integer.MAX_VALUE}) {
             Check.refused("15: no roll", mill, NO_PLACE, () -> mill.rollOf(no, 'w'));
         }
-        Trimwinder sent = cutTwice();
+        Trimwinder sent = Mills.cutTwice();
         sent.ship(1);
-        Check.same("15: shipped with its order", "0 1 25 10 0 1 x", roll(sent, 5));
+        Check.same("15: shipped with its order", "0 1 25 10 0 1 x", Mills.roll(sent, 5));
     }
 
     private static void promise16() {
-        Trimwinder mill = cutTwice();
+        Trimwinder mill = Mills.cutTwice();
         Check.same("16: stock", 's', mill.stateOf(0));
         Check.same("16: held", 'h', mill.stateOf(1));
         mill.ship(1);
@@ -782,25 +721,25 @@ public final class PromiseTest {
     }
 
     private static void promise17() {
-        Trimwinder mill = cutTwice();
+        Trimwinder mill = Mills.cutTwice();
         Check.same("17: from stock", 5, mill.give(0, 1));
-        Check.same("17: now held", "0 0 0 10 2 1 h", roll(mill, 0));
+        Check.same("17: now held", "0 0 0 10 2 1 h", Mills.roll(mill, 0));
         Check.same("17: as many more", 4, mill.held(1));
-        Check.same("17: its columns are broke", "120 10 40 70 0", weights(mill));
+        Check.same("17: its columns are broke", "120 10 40 70 0", Mills.weights(mill));
         Check.same("17: from another order", 5, mill.give(1, 1));
         Check.same("17: one less there", 1, mill.held(0));
-        Check.same("17: first columns are kept", "0 0 15 10 0 1 h", roll(mill, 1));
+        Check.same("17: first columns are kept", "0 0 15 10 0 1 h", Mills.roll(mill, 1));
         mill.order(0, 10, 1, 0, 2);
         mill.plan(3);
         Check.same("17: as wide, and the flaw is the quality", 0, mill.give(0, 3));
-        Check.same("17: given again", "0 0 0 10 2 3 h", roll(mill, 0));
+        Check.same("17: given again", "0 0 0 10 2 3 h", Mills.roll(mill, 0));
         Check.refused("17: the plan is gone", mill, NONE_THERE, () -> mill.trim());
         mill.ship(3);
         Check.same("17: and shipped", 'x', mill.stateOf(0));
     }
 
     private static void promise17Wrong() {
-        Trimwinder mill = cutTwice();
+        Trimwinder mill = Mills.cutTwice();
         Check.refused("17: the flaw is above the quality", mill, NOT_NOW, () -> mill.give(0, 0));
         Check.refused("17: another kind", mill, NOT_NOW, () -> mill.give(1, 2));
         Check.refused("17: held for it", mill, NOT_NOW, () -> mill.give(1, 0));
@@ -825,7 +764,7 @@ public final class PromiseTest {
     }
 
     private static void promise18() {
-        Trimwinder mill = cutTwice();
+        Trimwinder mill = Mills.cutTwice();
         Check.same("18: two of three are good", 2, mill.held(0));
         Check.same("18: three", 3, mill.held(1));
         Check.same("18: none", 0, mill.held(2));
@@ -838,13 +777,13 @@ public final class PromiseTest {
     }
 
     private static void promise19() {
-        Trimwinder mill = cutTwice();
+        Trimwinder mill = Mills.cutTwice();
         Check.same("19: as many as the tolerance lets", 3, mill.ship(1));
-        Check.same("19: their weight", "120 5 40 45 30", weights(mill));
-        Check.same("19: the stock stays", "0 0 0 15 2 -1 s", roll(mill, 0));
+        Check.same("19: their weight", "120 5 40 45 30", Mills.weights(mill));
+        Check.same("19: the stock stays", "0 0 0 15 2 -1 s", Mills.roll(mill, 0));
         Check.same("19: each of them", "hhxhxx", "" + mill.stateOf(1) + mill.stateOf(3) + mill.stateOf(2)
                 + mill.stateOf(1) + mill.stateOf(4) + mill.stateOf(5));
-        Trimwinder few = mill(40, 2, 0, 20);
+        Trimwinder few = Mills.mill(40, 2, 0, 20);
         few.order(0, 20, 3, 1, 0);
         few.order(1, 20, 1, 1, 0);
         few.order(2, 20, 2, 1, 0);
@@ -859,7 +798,7 @@ public final class PromiseTest {
     }
 
     private static void promise19Wrong() {
-        Trimwinder mill = cutTwice();
+        Trimwinder mill = Mills.cutTwice();
         mill.plan(3);
         Check.refused("19: too few", mill, NOT_NOW, () -> mill.ship(0));
         Check.refused("19: none", mill, NOT_NOW, () -> mill.ship(2));
@@ -880,7 +819,7 @@ public final class PromiseTest {
     }
 
     private static void promise20() {
-        Trimwinder mill = cutTwice();
+        Trimwinder mill = Mills.cutTwice();
         Check.same("20: not yet", false, mill.isShipped(1));
         mill.ship(1);
         Check.same("20: it is", true, mill.isShipped(1));
@@ -891,14 +830,14 @@ public final class PromiseTest {
     }
 
     private static void promise21() {
-        Trimwinder mill = mill(40, 2, 0, 10);
+        Trimwinder mill = Mills.mill(40, 2, 0, 10);
         mill.order(0, 15, 2, 0, 0);
         mill.order(0, 8, 1, 0, 3);
         mill.order(0, 9, 1, 1, 3);
         mill.order(1, 40, 1, 0, 0);
         mill.setMill(40, 3, 0, 10);
         Check.same("21: one set", 1, mill.plan(0));
-        Check.same("21: its pattern", "2 1 0 0", row(mill, 0, 4));
+        Check.same("21: its pattern", "2 1 0 0", Mills.row(mill, 0, 4));
         mill.reel(0);
         mill.flaw(0, 1, 8, 2);
         mill.flaw(0, 1, 14, 1);
@@ -923,7 +862,7 @@ public final class PromiseTest {
     }
 
     private static void promise22() {
-        Trimwinder mill = mill(50, 5, 1, 8);
+        Trimwinder mill = Mills.mill(50, 5, 1, 8);
         mill.order(1, 17, 4, 1, 0);
         mill.order(1, 11, 3, 0, 2);
         mill.order(1, 9, 2, 2, 3);
@@ -931,10 +870,10 @@ public final class PromiseTest {
         Check.same("22: ten", 10, mill.patterns(1));
         Check.same("22: no trim left", 0, mill.patterns(0));
         Check.same("22: none", 0, mill.patterns(2));
-        Check.same("22: also more than are ordered", 3, count(mill(40, 4, 0, 20), 10, 1));
-        Check.same("22: no empty one", 1, count(mill(20, 1, 0, 20), 4, 1));
-        Check.same("22: no empty one beside none", 0, mill(20, 1, 0, 20).patterns(0));
-        Trimwinder small = mill(60, 8, 0, 20);
+        Check.same("22: also more than are ordered", 3, count(Mills.mill(40, 4, 0, 20), 10, 1));
+        Check.same("22: no empty one", 1, count(Mills.mill(20, 1, 0, 20), 4, 1));
+        Check.same("22: no empty one beside none", 0, Mills.mill(20, 1, 0, 20).patterns(0));
+        Trimwinder small = Mills.mill(60, 8, 0, 20);
         for (int i = 0; i < 6; i++) {
             small.order(3, 7 + i % 2, 1, 3, 0);
         }
@@ -945,7 +884,7 @@ public final class PromiseTest {
         for (int kind : new int[] {-1, 4, Integer.MIN_VALUE, Integer.MAX_VALUE}) {
             Check.refused("22: no kind", small, WRONG_NUMBER, () -> small.patterns(kind));
         }
-        Trimwinder cut = cutTwice();
+        Trimwinder cut = Mills.cutTwice();
         Check.same("22: whatever is held", 3, cut.patterns(0));
     }
 
@@ -955,16 +894,16 @@ public final class PromiseTest {
     }
 
     private static void promise23() {
-        Trimwinder mill = cutTwice();
-        Check.same("23: parts", "120 5 40 75 0", weights(mill));
+        Trimwinder mill = Mills.cutTwice();
+        Check.same("23: parts", "120 5 40 75 0", Mills.weights(mill));
         mill.give(0, 1);
-        Check.same("23: cut to another width", "120 10 40 70 0", weights(mill));
+        Check.same("23: cut to another width", "120 10 40 70 0", Mills.weights(mill));
         mill.reel(2);
-        Check.same("23: broke is pulp again", "230 0 160 70 0", weights(mill));
+        Check.same("23: broke is pulp again", "230 0 160 70 0", Mills.weights(mill));
         mill.order(0, 10, 1, 0, 3);
         mill.give(0, 3);
         mill.ship(3);
-        Check.same("23: shipped", "230 0 160 60 10", weights(mill));
+        Check.same("23: shipped", "230 0 160 60 10", Mills.weights(mill));
         mill.plan(3);
         for (char what : "PBURXsowq \u0000\uffff".toCharArray()) {
             Check.refused("23: no such thing", mill, WRONG_NUMBER, () -> mill.weight(what));
@@ -972,7 +911,7 @@ public final class PromiseTest {
     }
 
     private static void promise24() {
-        Trimwinder mill = cutTwice();
+        Trimwinder mill = Mills.cutTwice();
         Check.same("24: 75 of 80", 0.9375f, mill.yieldShare());
         mill.give(0, 1);
         giveBack(mill);
@@ -980,7 +919,7 @@ public final class PromiseTest {
         Check.same("24: as they were cut", 0.9375f, mill.yieldShare());
         mill.reel(3);
         Check.same("24: of the sets that were cut", 0.9375f, mill.yieldShare());
-        Trimwinder third = mill(21, 1, 0, 20);
+        Trimwinder third = Mills.mill(21, 1, 0, 20);
         third.order(0, 7, 1, 0, 0);
         third.plan(0);
         third.reel(0);
@@ -996,11 +935,11 @@ public final class PromiseTest {
     }
 
     private static void promise25() {
-        Trimwinder mill = cutTwice();
+        Trimwinder mill = Mills.cutTwice();
         Check.same("25: 2 and 1 of 6", 0.5, mill.meanFlaw());
         mill.give(0, 1);
         Check.same("25: the flaws as they were", 0.5, mill.meanFlaw());
-        Trimwinder third = mill(60, 3, 0, 0);
+        Trimwinder third = Mills.mill(60, 3, 0, 0);
         third.order(0, 20, 3, 0, 1);
         third.plan(0);
         third.reel(0);
@@ -1008,13 +947,13 @@ public final class PromiseTest {
         Check.refused("25: no rolls", third, NO_SHARE, () -> third.meanFlaw());
         third.cut(0, 0, 0);
         Check.same("25: two thirds as a double", 2.0 / 3.0, third.meanFlaw());
-        Trimwinder sent = cutTwice();
+        Trimwinder sent = Mills.cutTwice();
         sent.ship(1);
         Check.same("25: shipped ones too", 0.5, sent.meanFlaw());
     }
 
     private static void promise26() {
-        Trimwinder mill = cutTwice();
+        Trimwinder mill = Mills.cutTwice();
         Check.same("26: cut", true, mill.isSound());
         mill.give(0, 1);
         Check.same("26: given", true, mill.isSound());
@@ -1025,7 +964,7 @@ public final class PromiseTest {
         Check.same("26: shipped", true, mill.isSound());
         mill.plan(3);
         Check.same("26: planned", true, mill.isSound());
-        Trimwinder waste = wasteful(1, 12);
+        Trimwinder waste = Mills.wasteful(1, 12);
         Check.same("26: more sets than the bound", true, waste.isSound());
         waste.reel(1);
         waste.cut(0, 0, 0);
@@ -1034,26 +973,26 @@ public final class PromiseTest {
 
     /** No call makes a mill unsound, so the state itself is spoilt here. */
     private static void promise26Broken() throws Exception {
-        Trimwinder pulp = cutTwice();
+        Trimwinder pulp = Mills.cutTwice();
         spoil(pulp, "pulp", 1);
         Check.same("26: pulp out of nothing", false, pulp.isSound());
-        Trimwinder broke = cutTwice();
+        Trimwinder broke = Mills.cutTwice();
         spoil(broke, "broke", -1);
         Check.same("26: broke is lost", false, broke.isSound());
-        Trimwinder quality = cutTwice();
+        Trimwinder quality = Mills.cutTwice();
         spoil(part(quality, "orders", 1), "quality", -3);
         Check.same("26: a flaw beyond the quality", false, quality.isSound());
-        Trimwinder sent = cutTwice();
+        Trimwinder sent = Mills.cutTwice();
         sent.ship(1);
         spoil(part(sent, "orders", 1), "quality", -3);
         Check.same("26: shipped with a flaw beyond the quality", false, sent.isSound());
-        Trimwinder map = cutTwice();
+        Trimwinder map = Mills.cutTwice();
         spoil(part(map, "wound", 4), "flaw", 1);
         Check.same("26: a flaw that the map does not show", false, map.isSound());
-        Trimwinder first = cutTwice();
+        Trimwinder first = Mills.cutTwice();
         spoil(part(first, "wound", 0), "flaw", -1);
         Check.same("26: a flaw of the first roll that the map shows otherwise", false, first.isSound());
-        Trimwinder plan = cutTwice();
+        Trimwinder plan = Mills.cutTwice();
         spoil(field(plan, "current").get(plan), "boundThen", 1);
         Check.same("26: fewer sets than the bound", false, plan.isSound());
     }
