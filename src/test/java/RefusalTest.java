@@ -22,6 +22,7 @@ public final class RefusalTest {
     }
 
     public static void main(String[] args) {
+        theMillsAreAsTold();
         theEmptyMill(new RefusalTest("empty", Trimwinder::new));
         theMillWithOneReelAlone(new RefusalTest("one reel", RefusalTest::oneReel));
         RefusalTest busy = new RefusalTest("busy", Mills::busy);
@@ -37,6 +38,29 @@ public final class RefusalTest {
         theFullMillIsSetUp(new RefusalTest("full", Mills::full));
         theFullMillCuts(new RefusalTest("full", Mills::full));
         Check.end();
+    }
+
+    /** What the calls below rest on. */
+    private static void theMillsAreAsTold() {
+        Trimwinder busy = Mills.busy();
+        Check.same("busy: its plan", "2 1 0 0 0, 1 2 0 0 0", Mills.rows(busy, 2, 5));
+        Check.same("busy: unused", 1, busy.unused());
+        Check.same("busy: roll 0", "0 0 0 15 2 -1 s", Mills.roll(busy, 0));
+        Check.same("busy: roll 1", "0 0 15 15 0 0 h", Mills.roll(busy, 1));
+        Check.same("busy: roll 2", "0 0 30 10 1 1 h", Mills.roll(busy, 2));
+        Check.same("busy: order 3", true, busy.isShipped(3));
+        Check.same("busy: what it weighs", "240 0 200 40 0", Mills.weights(busy));
+        Trimwinder crowded = Mills.crowded();
+        Check.same("crowded: unused", 12, crowded.unused());
+        Check.same("crowded: trim", 144, crowded.trim());
+        Trimwinder full = Mills.full();
+        Check.same("full: rolls", 150, full.rolls());
+        Check.same("full: its plan", "0 6 0 0 0 0, 0 0 0 1 0 0", Mills.rows(full, 2, 6));
+        Check.same("full: unused", 1, full.unused());
+        Check.same("full: order 4", true, full.isShipped(4));
+        Check.same("too many: held", 4, tooMany().held(1));
+        Check.same("shipped: held", 0, shipped().held(1));
+        Check.same("no plan: unused", 0, planless().unused());
     }
 
     private void refuse(String what, Class<?> due, Check.Act act) {

@@ -11,6 +11,7 @@ public final class TermsTest {
     public static void main(String[] args) {
         theDeckleIsFortyAtFirst();
         theKnivesAreSixAtFirst();
+        theTrimIsZeroToTenAtFirst();
         asManyRollsAsTheKnives();
         theTrimIsFromTheLeastToTheMost();
         aColumnOfASetWeighsOne();
@@ -69,6 +70,20 @@ public final class TermsTest {
         Check.same("six of the width 5 alone", 1, mill.patterns(0));
         Check.same("two sets", 2, mill.plan(0));
         Check.same("six in the first one", 6, mill.patternAt(0, 0));
+    }
+
+    /** "the trim .. is from the least one, 0 at first, to the most one, 10 at first" */
+    private static void theTrimIsZeroToTenAtFirst() {
+        Trimwinder mill = new Trimwinder();
+        mill.order(0, 20, 1, 0, 0);
+        mill.order(0, 21, 1, 0, 0);
+        Check.same("two of 20 leave no trim, and 21 does not go beside 20", 1, mill.patterns(0));
+        Check.refused("nor is either cut alone", mill, NONE, () -> mill.plan(0));
+        Check.same("41 columns are more than a set has", 2, mill.bound(0));
+        mill.order(1, 30, 1, 0, 0);
+        Check.same("a trim of 10", 1, mill.patterns(1));
+        mill.order(2, 29, 1, 0, 0);
+        Check.same("no trim of 11", 0, mill.patterns(2));
     }
 
     /** "at most as many as the knives" */
